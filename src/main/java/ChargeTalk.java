@@ -101,10 +101,7 @@ public final class ChargeTalk {
     }
 
     public long planned(long t) {
-        if (!isWithin(t, 0, Tariff.MINUTES - 1)) {
-            return 0;
-        }
-        return tariff.unitsIn((int) t);
+        return tariff.unitsIn(t);
     }
 
     public int stop(int kind, long t) {
@@ -402,8 +399,8 @@ public final class ChargeTalk {
             return spans;
         }
 
-        int unitsIn(int minute) {
-            return minute >= 0 && minute < MINUTES ? units[minute] : 0;
+        int unitsIn(long minute) {
+            return minute >= 0 && minute < MINUTES ? units[(int) minute] : 0;
         }
 
         /** Makes a PLAN and answers its cost; lacking tells what it is short of. */

@@ -27,6 +27,9 @@ public final class FaceTest {
         }
         for (Class<?> inner : face.getDeclaredClasses()) {
             c.holds(inner.getName() + " is static", Modifier.isStatic(inner.getModifiers()));
+            for (Method m : inner.getDeclaredMethods()) {
+                c.holds(m.getName() + " has a name of its own", !isOfFace(m.getName()));
+            }
         }
         c.end();
     }
@@ -47,6 +50,15 @@ public final class FaceTest {
                     Modifier.isPrivate(m.getModifiers()) && !names.contains(m.getName()));
             }
         }
+    }
+
+    private static boolean isOfFace(String name) {
+        for (String method : FACE) {
+            if (method.contains(" " + name + "(")) {
+                return true;
+            }
+        }
+        return false;
     }
 
     private static String written(Method m) {
