@@ -1,29 +1,57 @@
-/** Counts the answers that are not as due, and ends a test with 1 if there was one. */
+/**
+ * Counts the answers that are not as due, tells them with the sentence of the document that they break,
+ * and ends a test with 1 if there was one.
+ */
 final class Checks {
     /** What a call gives in place of an answer when it throws ArithmeticException. */
     static final long THROWN = Long.MIN_VALUE;
+    static final long TIME_MOST = 1L << 50;
 
     private int wrong = 0;
+    private int sentences = 0;
+    private String sentence = "";
+    private boolean checked = true;
+
+    /** What is checked from here on is the test of this sentence. */
+    void sentence(String words) {
+        endSentence();
+        sentence = words;
+        sentences++;
+        checked = false;
+    }
 
     void due(String call, long got, long want) {
+        checked = true;
         if (got != want) {
-            wrong++;
-            System.out.println(call + " answered " + got + ", due is " + want);
+            tell(call + " answered " + got + ", due is " + want);
         }
     }
 
     void holds(String what, boolean so) {
+        checked = true;
         if (!so) {
-            wrong++;
-            System.out.println("does not hold: " + what);
+            tell("does not hold: " + what);
         }
     }
 
     void end() {
-        System.out.println(wrong == 0 ? "all as due" : wrong + " not as due");
+        endSentence();
+        String of = sentences == 0 ? "" : " in the tests of " + sentences + " sentences";
+        System.out.println((wrong == 0 ? "all as due" : wrong + " not as due") + of);
         if (wrong != 0) {
             System.exit(1);
         }
+    }
+
+    private void endSentence() {
+        if (!checked) {
+            tell("nothing was checked");
+        }
+    }
+
+    private void tell(String what) {
+        wrong++;
+        System.out.println(sentence.isEmpty() ? what : "\"" + sentence + "\": " + what);
     }
 
     static long shareOf(ChargeTalk x, int car, long all, int side) {
@@ -40,6 +68,11 @@ final class Checks {
         x.pilot(50, 9);
         x.plug(true);
         return x;
+    }
+
+    /** Whether a TALK with this current comes through a PHASE. */
+    static boolean hasPhase(int phase, boolean direct) {
+        return direct || (phase != 5 && phase != 6);
     }
 
     /** Leads an object in PHASE 0 to a PHASE, with all messages at one time. */
@@ -59,5 +92,10 @@ final class Checks {
         ChargeTalk x = ready();
         lead(x, phase, direct, limit, t);
         return x;
+    }
+
+    /** A message of each kind whose number every rule takes, if the PHASE does: a LIMIT of 10 or more. */
+    static long goodNumber(int kind) {
+        return new long[] {0, 1, 1, 10, 100, 400, 0, 10, 10, 0, 0}[kind];
     }
 }

@@ -1,87 +1,176 @@
-/** Promises 2 and 4: pilot and allowed. */
+/** THE PILOT, and promises 2 and 4: pilot and allowed. */
 public final class PilotTest {
+    private static final long[] CONNECTED = {9, 6, 3};
+    private static final long[] OTHERS = {12, 0, -12, 5};
+    private static final long TWO_32 = 1L << 32;
+
     public static void main(String[] args) {
         Checks c = new Checks();
-        levels(c);
-        allowedByShare(c);
-        wideArguments(c);
-        endOfTalk(c);
-        digital(c);
+        volts(c);
+        otherVolts(c);
+        shareOutside(c);
+        sixty(c);
+        sixTenths(c);
+        twentyFiveTenths(c);
+        eightHundred(c);
+        otherShares(c);
+        otherStates(c);
+        digitalShares(c);
+        digitalStates(c);
+        atFirst(c);
         c.end();
     }
 
-    private static void levels(Checks c) {
+    private static void level(Checks c, long share, long volt, long want) {
+        c.due("pilot(" + share + ", " + volt + ")", new ChargeTalk().pilot(share, volt), want);
+    }
+
+    private static void volts(Checks c) {
+        c.sentence("Its STATE is 0, 1, 2, 3, 4, 5 for 12, 9, 6, 3, 0, -12 volts");
+        long[] of = {12, 9, 6, 3, 0, -12};
+        for (int state = 0; state < of.length; state++) {
+            level(c, 500, of[state], state);
+        }
+        // One object goes through all of them, there and back.
         ChargeTalk x = new ChargeTalk();
-        for (long volt = -20; volt <= 20; volt++) {
-            long want = volt == 12 ? 0 : volt == 9 ? 1 : volt == 6 ? 2 : volt == 3 ? 3
-                : volt == 0 ? 4 : volt == -12 ? 5 : 6;
-            c.due("pilot(500, " + volt + ")", x.pilot(500, volt), want);
-            c.due("allowed()", x.allowed(), want >= 1 && want <= 3 ? 300 : 0);
-            c.due("pilot(0, " + volt + ")", x.pilot(0, volt), want);
-            c.due("pilot(1000, " + volt + ")", x.pilot(1000, volt), want);
-            c.due("pilot(-1, " + volt + ")", x.pilot(-1, volt), 6);
-            c.due("allowed()", x.allowed(), 0);
-            c.due("pilot(1001, " + volt + ")", x.pilot(1001, volt), 6);
-            c.due("allowed()", x.allowed(), 0);
+        for (int i = 0; i < 12; i++) {
+            int state = i < 6 ? i : 11 - i;
+            c.due("pilot(500, " + of[state] + ")", x.pilot(500, of[state]), state);
         }
     }
 
-    private static void allowedByShare(Checks c) {
-        long[][] due = {{0, 0}, {30, 0}, {70, 0}, {79, 0}, {80, 60}, {99, 60}, {100, 60}, {101, 60},
-            {102, 61}, {104, 62}, {105, 63}, {109, 65}, {849, 509}, {850, 510}, {851, 527}, {852, 530},
-            {853, 532}, {959, 797}, {960, 800}, {961, 800}, {970, 800}, {971, 0}, {1000, 0}};
-        ChargeTalk x = new ChargeTalk();
-        for (long[] d : due) {
-            for (long volt : new long[] {9, 6, 3}) {
-                x.pilot(d[0], volt);
-                c.due("allowed() at " + d[0] + ", " + volt, x.allowed(), d[1]);
-            }
-            for (long volt : new long[] {12, 0, -12, 7}) {
-                x.pilot(d[0], volt);
-                c.due("allowed() at " + d[0] + ", " + volt, x.allowed(), 0);
-            }
+    private static void otherVolts(Checks c) {
+        c.sentence("6 for other volts");
+        for (long volt : new long[] {13, 11, 10, 8, 7, 5, 4, 2, 1, -1, -2, -3, -6, -9, -11, -13}) {
+            level(c, 500, volt, 6);
         }
+        for (long volt : new long[] {12, 9, 6, 3, 0, -12}) {
+            level(c, 500, volt + TWO_32, 6);
+            level(c, 500, volt - TWO_32, 6);
+        }
+        level(c, 500, Long.MIN_VALUE, 6);
+        level(c, 500, Long.MAX_VALUE, 6);
     }
 
-    private static void wideArguments(Checks c) {
-        ChargeTalk x = new ChargeTalk();
-        long two32 = 1L << 32;
-        c.due("share of 2^32 + 500", x.pilot(two32 + 500, 9), 6);
-        c.due("allowed()", x.allowed(), 0);
-        c.due("volt of 2^32 + 9", x.pilot(500, two32 + 9), 6);
-        c.due("the least share", x.pilot(Long.MIN_VALUE, 9), 6);
-        c.due("the most volts", x.pilot(500, Long.MAX_VALUE), 6);
-    }
-
-    private static void endOfTalk(Checks c) {
-        long[][] pilots = {{50, 12}, {50, 0}, {50, -12}, {50, 5}, {1001, 9}, {-1, 9}};
-        for (int phase = 1; phase <= 8; phase++) {
-            for (long[] p : pilots) {
-                ChargeTalk x = Checks.inPhase(phase, true, 100, 0);
-                x.pilot(p[0], p[1]);
-                c.due("state() after a pilot that ENDS PHASE " + phase, x.state(), 0);
-            }
-            ChargeTalk x = Checks.inPhase(phase, true, 100, 0);
-            for (long volt : new long[] {9, 6, 3}) {
-                x.pilot(900, volt);
-                c.due("state() after a pilot that leaves PHASE " + phase, x.state(), phase);
+    private static void shareOutside(Checks c) {
+        c.sentence("or if the share is not 0 .. 1000");
+        long[] volts = {12, 9, 6, 3, 0, -12, 5};
+        for (int state = 0; state < volts.length; state++) {
+            level(c, 0, volts[state], state);
+            level(c, 1000, volts[state], state);
+            for (long share : new long[] {-1, 1001, TWO_32, TWO_32 + 500, Long.MIN_VALUE, Long.MAX_VALUE}) {
+                level(c, share, volts[state], 6);
             }
         }
     }
 
-    private static void digital(Checks c) {
-        long[][] due = {{29, -3}, {30, 1}, {50, 1}, {70, 1}, {71, -3}};
-        for (long[] d : due) {
-            for (long volt : new long[] {9, 6, 3}) {
+    private static void allows(Checks c, long share, long want) {
+        for (long volt : CONNECTED) {
+            ChargeTalk x = new ChargeTalk();
+            x.pilot(share, volt);
+            c.due("allowed() after pilot(" + share + ", " + volt + ")", x.allowed(), want);
+        }
+    }
+
+    private static void sixty(Checks c) {
+        c.sentence("60 for s 80 .. 99");
+        allows(c, 79, 0);
+        allows(c, 80, 60);
+        allows(c, 81, 60);
+        allows(c, 98, 60);
+        allows(c, 99, 60);
+    }
+
+    private static void sixTenths(Checks c) {
+        c.sentence("6 s / 10 for 100 .. 850, whole");
+        allows(c, 100, 60);
+        allows(c, 101, 60);
+        allows(c, 102, 61);
+        allows(c, 104, 62);
+        allows(c, 105, 63);
+        allows(c, 849, 509);
+        allows(c, 850, 510);
+    }
+
+    private static void twentyFiveTenths(Checks c) {
+        c.sentence("25 (s - 640) / 10 for 851 .. 960, whole");
+        allows(c, 851, 527);
+        allows(c, 852, 530);
+        allows(c, 853, 532);
+        allows(c, 959, 797);
+        allows(c, 960, 800);
+    }
+
+    private static void eightHundred(Checks c) {
+        c.sentence("800 for 961 .. 970");
+        allows(c, 961, 800);
+        allows(c, 969, 800);
+        allows(c, 970, 800);
+        allows(c, 971, 0);
+    }
+
+    private static void otherShares(Checks c) {
+        c.sentence("0 for others");
+        for (long share : new long[] {0, 1, 29, 30, 70, 71, 79, 971, 972, 999, 1000}) {
+            allows(c, share, 0);
+        }
+        for (long share : new long[] {-1, 1001, TWO_32 + 500, 500 - TWO_32, Long.MIN_VALUE, Long.MAX_VALUE}) {
+            allows(c, share, 0);
+        }
+    }
+
+    private static void otherStates(Checks c) {
+        c.sentence("In other STATES 0");
+        for (long volt : OTHERS) {
+            for (long share : new long[] {0, 80, 99, 100, 850, 851, 960, 961, 970, 1000}) {
                 ChargeTalk x = new ChargeTalk();
-                x.plug(true);
-                x.pilot(d[0], volt);
-                c.due("message(0, 0, 0) at share " + d[0], x.message(0, 0, 0), d[1]);
+                x.pilot(500, 9);
+                x.pilot(share, volt);
+                c.due("allowed() after pilot(" + share + ", " + volt + ")", x.allowed(), 0);
             }
         }
+    }
+
+    /** Only message 0 shows whether the PILOT is DIGITAL. */
+    private static void begins(Checks c, long share, long volt, long want) {
         ChargeTalk x = new ChargeTalk();
         x.plug(true);
-        x.pilot(50, 12);
-        c.due("message(0, 0, 0) at 12 volts", x.message(0, 0, 0), -3);
+        x.pilot(share, volt);
+        c.due("message(0, 0, 0) after pilot(" + share + ", " + volt + ")", x.message(0, 0, 0), want);
+    }
+
+    private static void digitalShares(Checks c) {
+        c.sentence("It is DIGITAL if s is 30 .. 70");
+        for (long volt : CONNECTED) {
+            begins(c, 0, volt, -3);
+            begins(c, 29, volt, -3);
+            begins(c, 30, volt, 1);
+            begins(c, 31, volt, 1);
+            begins(c, 69, volt, 1);
+            begins(c, 70, volt, 1);
+            begins(c, 71, volt, -3);
+            begins(c, 1000, volt, -3);
+            begins(c, TWO_32 + 50, volt, -3);
+        }
+    }
+
+    private static void digitalStates(Checks c) {
+        c.sentence("DIGITAL in STATES 1 to 3");
+        for (long volt : OTHERS) {
+            begins(c, 30, volt, -3);
+            begins(c, 50, volt, -3);
+            begins(c, 70, volt, -3);
+        }
+        for (long volt : CONNECTED) {
+            begins(c, 50, volt, 1);
+        }
+    }
+
+    private static void atFirst(Checks c) {
+        c.sentence("At first the STATE is 0, s 0");
+        ChargeTalk x = new ChargeTalk();
+        c.due("allowed()", x.allowed(), 0);
+        x.plug(true);
+        c.due("message(0, 0, 0)", x.message(0, 0, 0), -3);
     }
 }
