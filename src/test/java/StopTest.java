@@ -68,6 +68,11 @@ public final class StopTest {
             c.due("stop(" + kind + ", 0)", Checks.inPhase(7, false, 5000, 0).stop(kind, 0), 5000);
             c.due("stop(" + kind + ", 0), direct", Checks.inPhase(7, true, 5000, 0).stop(kind, 0), 5000);
         }
+        // The numbers of other messages are no current.
+        ChargeTalk x = Checks.inPhase(6, true, 5000, 0);
+        x.message(6, 900, 0);
+        x.message(8, 800, 0);
+        c.due("stop(0, 0) after message(6, 900, 0) and message(8, 800, 0)", x.stop(0, 0), 5000);
     }
 
     private static void thisTalkAlone(Checks c) {

@@ -18,6 +18,7 @@ public final class TalkTest {
         start(c);
         charge(c);
         energy(c);
+        energyOfSevenAlone(c);
         newLimit(c);
         newLimitFromNowOn(c);
         finish(c);
@@ -229,6 +230,23 @@ public final class TalkTest {
         step(c, y, 6, 0, 1000, 7);
         step(c, y, 7, 36, 2000, 7);
         c.due("meter(0) after 36 times 1000", y.meter(0), -1);
+    }
+
+    private static void energyOfSevenAlone(Checks c) {
+        c.sentence("7: the ENERGY is more; by no other message");
+        long[][] direct = {{0, 1000000}, {1, 1}, {2, 1}, {3, 5000}, {4, 1000000}, {5, 1000000}, {5, -1000000},
+            {5, 400}, {6, 1000000}, {8, 5000}, {9, 1000000}, {10, 1000000}};
+        long[][] alternating = {{0, -1000000}, {1, 0}, {2, 1}, {3, 5000}, {6, -1000000}, {8, 5000}, {9, -1000000},
+            {10, -1000000}};
+        for (long[][] talk : new long[][][] {direct, alternating}) {
+            ChargeTalk x = Checks.ready();
+            long t = 0;
+            for (long[] s : talk) {
+                t += 5000;
+                c.holds("message " + s[0] + " is in order", x.message((int) s[0], s[1], t) >= 0);
+                c.due("meter(0) after message(" + s[0] + ", " + s[1] + ", " + t + ")", x.meter(0), 0);
+            }
+        }
     }
 
     private static void newLimit(Checks c) {
